@@ -718,6 +718,7 @@ public final class PeaSoup {
             System.arraycopy(fogOf, 0, drifted, 0, CELLS);
             for (int cell = 0; cell < CELLS; cell++) {
                 int quarter = fogOf[cell] / 4;
+                // Below 4 nothing can be given, so the TEXT needn't be worked out.
                 if (quarter > 0) {
                     giveToNext(cell, Math.min(quarter, drifts.gives(fogOf[cell], wind, hour % 24)));
                 }

@@ -131,6 +131,12 @@ public final class HoursTest {
         Due.is("loose(2)", soup.loose(2), Due.STATE);
         Due.is("loose(1)", soup.loose(1), 0);
         Due.is("HOUR at last", soup.count(2), 9999);
+        PeaSoup plain = new PeaSoup();
+        for (int i = 0; i < 166; i++) {
+            plain.hours(60);
+        }
+        Due.is("to the last HOUR", plain.hours(39), 0);
+        Due.is("HOUR at last", plain.count(2), 9999);
         Due.is("hours(1)", soup.hours(1), Due.STATE);
         Due.is("hours(61) at last", soup.hours(61), Due.BEYOND);
         soup.set(0, 0);
@@ -146,6 +152,12 @@ public final class HoursTest {
         int z = 1 * 1103515245 + 12345;
         Due.is("one draw without PEOPLE", alone.count(11), z);
         Due.is("WIND", alone.count(3), (z >>> 8) % 10);
+        PeaSoup one = new PeaSoup();
+        one.person(3);
+        one.loose(1);
+        z = z * 1103515245 + 12345;
+        Due.is("two draws with one of PEOPLE", one.count(11), z);
+        Due.is("its CELL", one.at(0), (z >>> 8) / 8 % 16);
         PeaSoup soup = new PeaSoup();
         soup.seed(-77);
         soup.person(0);

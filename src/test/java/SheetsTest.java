@@ -157,5 +157,20 @@ public final class SheetsTest {
         Due.is("one is too many", soup.judge(1), 3);
         soup.put(1, 0, 8);
         Due.is("the first", soup.judge(1), 0);
+        soup.jar(0, 0, 3);
+        soup.jar(0, 0, 3);
+        soup.jar(0, 0, 3);
+        soup.sheet(2, 32, 6);
+        int[] fills = {7, 999, 0, 3, 3, 3};
+        for (int i = 0; i < 6; i++) {
+            soup.put(2, i, fills[i]);
+        }
+        Due.is("all six are", soup.judge(2), -1);
+        soup.put(2, 5, 4);
+        Due.is("the last isn't", soup.judge(2), 5);
+        soup.sheet(3, 32, 40);
+        soup.move(2, 0, 3, 0, 5);
+        soup.put(3, 5, 3);
+        Due.is("the seventh of 40 is too many", soup.judge(3), 6);
     }
 }

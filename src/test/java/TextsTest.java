@@ -67,6 +67,7 @@ public final class TextsTest {
             {"!!!!!f", 9, 0, 0, 0}, {"(((((f)))))", 9, 0, 0, 9}, {"!(!(!f))", 9, 0, 0, 0},
             {"(!f)+(!w)+(!h)+(!f)+(!w)+(!h)", 0, 0, 0, 6},
             {"f+f+f+f+f+f+f+f+f+f+f+f+f+f+f+f+f+f+f+f+f+f+f+f+10", 2, 0, 0, 58},
+            {"!f+f+f+f+f+f+f+f+f+f+f+f+f+f+f+f+f+f+f+f+f+f+f+f+f", 2, 0, 0, 48},
             {"0|0&0<0+0*(0|0&0<0+0*(0|0&0<0+0*(0|0&0<0+0*(f))))", 2, 0, 0, 0},
         };
         for (Object[] row : rows) {
@@ -132,5 +133,11 @@ public final class TextsTest {
         day.lay(5, 100);
         Due.is("HOUR 24 is 0", day.hours(1), 100);
         Due.is("HOUR 25 is 1", day.hours(1), 99);
+        PeaSoup drift = new PeaSoup();
+        Due.text(drift, 0, "h");
+        drift.hours(24);
+        drift.lay(5, 100);
+        Due.is("HOUR 24 is 0, nothing drifts", drift.hours(1), 99);
+        Due.is("HOUR 25 is 1: 1 to four, which thins at once", drift.hours(1), 94);
     }
 }
