@@ -1002,9 +1002,9 @@ public final class PeaSoup {
         }
 
         int gives(int f, int w, int h) {
-            // Each sign puts one number at most, so the stack is as long as the code.
+            // Each sign puts one number at most, so the stack, as long as the code, is never full here.
             int top = 0;
-            for (int i = 0; i < code.length; i++) {
+            for (int i = 0; i < code.length && top < stack.length; i++) {
                 int sign = -code[i];
                 if (sign <= 0) {
                     stack[top++] = code[i];
